@@ -480,7 +480,7 @@ public final class ClockCouncil {
     }
 
     private static long ceilOf(long top, long bottom) {
-        return -floorOf(-top, bottom);
+        return bottom < 1 ? 0 : -Math.floorDiv(-top, bottom);
     }
 
     private static long atLeast(long gone, int drift) {
@@ -570,14 +570,6 @@ public final class ClockCouncil {
             return lowAt(now) <= now && now <= highAt(now);
         }
 
-        long answerLowAt(long now) {
-            return kind == LYING ? toldLow : lowAt(now);
-        }
-
-        long answerHighAt(long now) {
-            return kind == LYING ? toldHigh : highAt(now);
-        }
-
         /** What was heard of a member, or null when nothing was. */
         Span spanOf(int n) {
             if (n < 0 || n >= spansHeard.length) {
@@ -652,8 +644,9 @@ public final class ClockCouncil {
         }
 
         void takeAnswer(long now) {
-            low = asked.answerLowAt(now);
-            high = asked.answerHighAt(now);
+            boolean lies = asked.kind == LYING;
+            low = lies ? asked.toldLow : asked.lowAt(now);
+            high = lies ? asked.toldHigh : asked.highAt(now);
             answered = true;
             state = UNDER_WAY_BACK;
         }

@@ -30,6 +30,7 @@ public final class PromiseTest {
         councilPieces();
         meet();
         meetOfBest();
+        heardOfTheFirst();
         lead();
         stamp();
         given();
@@ -104,6 +105,7 @@ public final class PromiseTest {
             due("3: kind", x.of(i, 2), i % 5);
         }
         due("3: the 11th", x.member(0, 0, 0), NO);
+        due("7: m 10", x.counter(10), NO);
         due("3: count(0)", x.count(0), 10);
     }
 
@@ -249,6 +251,10 @@ public final class PromiseTest {
         }
         due("9: the 201st", x.ask(1, 0), NO);
         due("12: the 201st", x.twice(5), NO);
+        due("13: l 200", x.letter(200, 0), NO);
+        due("10: l 200", x.deliver(200), NO);
+        due("11: l 200", x.lose(200), NO);
+        due("12: l 200", x.twice(200), NO);
         due("9: count(1)", x.count(1), 200);
         due("9: count(2)", x.count(2), 200);
     }
@@ -433,8 +439,8 @@ public final class PromiseTest {
     private static void council() {
         ClockCouncil x = meeting(2, 5, 8, 20, 30, 40, 40);
         due("16: none", x.council(4, 0, 0), NO);
-        due("16: what -1", x.council(0, 0, -1), NO);
-        due("16: what 5", x.council(0, 0, 5), NO);
+        due("16: what -1", x.council(0, 2, -1), NO);
+        due("16: what 5", x.council(0, 2, 5), NO);
         due("16: f -1", x.council(0, -1, 0), NO);
         due("16: f 4", x.council(0, 4, 0), NO);
         due("16: f 4", x.council(0, 4, 1), NO);
@@ -472,6 +478,7 @@ public final class PromiseTest {
         due("16: LIARS of three", y.council(0, 2, 4), 4 + 8);
         ClockCouncil z = meeting(2, 100, 110, 100, 110);
         due("16: itself a LIAR", z.council(0, 1, 4), 1);
+        due("16: a beginning in common is one", meeting(2, 0, 5, 0, 3).council(0, 0, 1), 1);
         ClockCouncil ends = meeting(2, 20, 40, -10, 0);
         due("16: an end in common", ends.council(0, 1, 4), 0);
         due("16: LOW", ends.council(0, 1, 2), 0);
@@ -517,17 +524,42 @@ public final class PromiseTest {
 
     private static void meetOfBest() {
         ClockCouncil x = meeting(3, 5, 8, 40, 40);
+        int late = (int) x.ask(0, 1);
         due("17: BEST", x.meet(0, 1), 4);
         due("17: it keeps its own", x.of(0, 0), 0);
         due("17: it keeps its own", x.of(0, 1), 20);
         due("17: forgotten", x.of(0, 8), 0);
         due("17: met", x.of(0, 7), 1);
         due("17: a LIAR", x.of(2, 6), 1);
-        x.ask(0, 1);
-        int l = (int) x.count(1) - 1;
-        x.deliver(l);
-        x.deliver(l);
-        due("17: HEARD again", x.of(0, 8), 1);
+        x.deliver(late);
+        x.deliver(late);
+        due("17: HEARD again by a late letter", x.of(0, 8), 1);
+        due("17: of that one alone", x.heard(0, 2, 0), NO);
+    }
+
+    /** Member 1 hears of member 0, at a COUNTER that is not 0 when it asks. */
+    private static void heardOfTheFirst() {
+        ClockCouncil x = new ClockCouncil();
+        x.member(0, 0, 4);
+        x.member(2, 0, 100);
+        x.go(50);
+        x.ask(1, 0);
+        x.go(3);
+        x.deliver(0);
+        x.deliver(0);
+        due("14: LOW", x.heard(1, 0, 0), 49);
+        due("14: d since it asked", x.heard(1, 0, 1), 57 + 3);
+        due("8: HEARD", x.of(1, 8), 1);
+        due("16: spans", x.council(1, 0, 0), 2);
+        due("15: votes", x.votes(1, 49), 2);
+        due("17: meet", x.meet(1, 0), 0);
+        due("17: forgotten", x.of(1, 8), 0);
+        due("17: its span", x.of(1, 0), 49);
+        due("17: its span", x.of(1, 1), 60);
+        due("17: met", x.of(0, 7), 1);
+        x.stamp(1);
+        x.go(2);
+        due("22: since the MEETING", x.wait(1), 60 + 1 - 49 - 2);
     }
 
     private static void lead() {
@@ -589,6 +621,9 @@ public final class PromiseTest {
             due("19: stamp", x.stamp(0), i);
         }
         due("19: the 101st", x.stamp(0), NO);
+        due("20: 100", x.given(100, 0), NO);
+        due("21: 100", x.ahead(100, 0), NO);
+        due("23: 100", x.event(100), NO);
         due("19: count(3)", x.count(3), 100);
         due("19: its own span", x.given(99, 0), -3);
     }
@@ -657,6 +692,29 @@ public final class PromiseTest {
         }
         due("22: LOW is above", x.of(2, 0) > 16 ? 1 : 0, 1);
         due("22: 0 when it is", x.wait(2), 0);
+        waitingWithDrift();
+    }
+
+    private static void waitingWithDrift() {
+        for (int p = 1; p <= 200; p += 33) {
+            ClockCouncil x = new ClockCouncil();
+            x.member(3, 0, 7);
+            x.member(2, p, 0);
+            x.stamp(0);
+            for (int i = 0; i < 20; i++) {
+                long left = x.wait(1);
+                long low = x.of(1, 0);
+                due("22: 0 when it is, not below", left == 0 ? 1 : 0, low > 7 ? 1 : 0);
+                x.go(1);
+                due("22: one less", x.wait(1), Math.max(0, left - 1));
+            }
+            // FLOOR((D - 1) 1000 by (1000 + p)) + 1 = 8: D - 1 is CEIL(7 (1000 + p) by 1000)
+            ClockCouncil y = new ClockCouncil();
+            y.member(3, 0, 7);
+            y.member(2, p, 0);
+            y.stamp(0);
+            due("22: at first", y.wait(1), 1 + (7 * (1000 + p) + 999) / 1000);
+        }
     }
 
     private static void event() {
@@ -670,6 +728,10 @@ public final class PromiseTest {
             due("23: event", x.event(0), i);
         }
         due("23: the 31st", x.event(0), NO);
+        due("24: e 30", x.link(30, 0), NO);
+        due("24: g 30", x.link(0, 30), NO);
+        due("26: k 30", x.order(30), NO);
+        due("27: e 30", x.time(30), NO);
         due("23: count(4)", x.count(4), 30);
         due("23: its LOW", x.time(29), -5);
     }
@@ -765,8 +827,14 @@ public final class PromiseTest {
         for (int k = 0; k < 4; k++) {
             due("26: by rising TIMES", x.order(k), then[k]);
         }
+        x.event(0);
+        due("26: a new event after the ORDER was asked", x.order(1), 4);
+        due("27: its TIME", x.time(4), -3);
         x.link(1, 2);
         due("26: a RING", x.order(0), NO);
+        ClockCouncil y = events(2);
+        y.link(1, 0);
+        due("25: the first event must come late", y.mend(), 1);
     }
 
     private static void rings(String what, ClockCouncil x, int... want) {
