@@ -28,6 +28,7 @@ public final class PromiseTest {
         votes();
         council();
         councilPieces();
+        councilOfAll();
         meet();
         meetOfBest();
         heardOfTheFirst();
@@ -483,6 +484,21 @@ public final class PromiseTest {
         due("16: an end in common", ends.council(0, 1, 4), 0);
         due("16: LOW", ends.council(0, 1, 2), 0);
         due("16: HIGH", ends.council(0, 1, 3), 20);
+    }
+
+    private static void councilOfAll() {
+        ClockCouncil x = meeting(2, 0, 0, 2, 2, 4, 4, 6, 6, 8, 8, 10, 10, 12, 12, 14, 14, 30, 30);
+        due("16: spans", x.council(0, 9, 0), 10);
+        due("16: f 10", x.council(0, 10, 0), NO);
+        due("16: pieces of one", x.council(0, 9, 1), 2);
+        due("16: pieces of two", x.council(0, 8, 1), 8);
+        due("16: LOW", x.council(0, 8, 2), 0);
+        due("16: HIGH", x.council(0, 8, 3), 14);
+        due("16: LIARS", x.council(0, 8, 4), 512);
+        due("17: meet", x.meet(0, 8), 512);
+        for (int m = 0; m < 10; m++) {
+            due("17: met", x.of(m, 7), 1);
+        }
     }
 
     private static void meet() {
