@@ -1,3 +1,4 @@
+import java.lang.reflect.Array;
 import java.lang.reflect.Constructor;
 import java.lang.reflect.Field;
 import java.lang.reflect.InvocationTargetException;
@@ -5,8 +6,12 @@ import java.lang.reflect.Method;
 import java.lang.reflect.Modifier;
 import java.nio.file.Files;
 import java.nio.file.Path;
+import java.util.ArrayDeque;
 import java.util.Arrays;
+import java.util.Collections;
+import java.util.Deque;
 import java.util.HashSet;
+import java.util.IdentityHashMap;
 import java.util.Random;
 import java.util.Set;
 import java.util.TreeSet;
@@ -38,6 +43,7 @@ public final class FaceTest {
         face();
         neverThrows();
         text();
+        room();
         System.out.println(wrong == 0 ? "the face is as due" : wrong + " faults");
         if (wrong != 0) {
             System.exit(1);
@@ -117,6 +123,59 @@ public final class FaceTest {
                     check(false, m + Arrays.toString(a) + " threw " + e.getCause());
                 }
             }
+        }
+    }
+
+    /** All rows full: what one object holds then is all that it ever made, as no call makes what it throws away. */
+    private static void room() throws Exception {
+        ClockCouncil x = new ClockCouncil();
+        for (int i = 0; i < 10; i++) {
+            x.member(2, 0, 5);
+        }
+        for (int i = 0; i < 200; i++) {
+            x.ask(i % 10, (i + 1 + i / 10 % 9) % 10);
+        }
+        for (int i = 0; i < 90; i++) {
+            x.deliver(i);
+            x.deliver(i);
+        }
+        for (int i = 0; i < 100; i++) {
+            x.stamp(0);
+        }
+        check(x.of(9, 8) == 9, "not all have HEARD of all");
+        long[] held = held(x);
+        check(held[0] <= 450 && held[1] <= 4000, "an object holds " + held[0] + " objects, " + held[1] + " fields and elements");
+    }
+
+    private static long[] held(Object root) throws Exception {
+        Set<Object> seen = Collections.newSetFromMap(new IdentityHashMap<>());
+        Deque<Object> open = new ArrayDeque<>();
+        open.add(root);
+        seen.add(root);
+        long parts = 0;
+        while (!open.isEmpty()) {
+            Object at = open.remove();
+            if (at.getClass().isArray()) {
+                parts += Array.getLength(at);
+                for (int i = 0; at instanceof Object[] row && i < row.length; i++) {
+                    see(row[i], seen, open);
+                }
+                continue;
+            }
+            for (Field f : at.getClass().getDeclaredFields()) {
+                if (!Modifier.isStatic(f.getModifiers())) {
+                    parts++;
+                    f.setAccessible(true);
+                    see(f.getType().isPrimitive() ? null : f.get(at), seen, open);
+                }
+            }
+        }
+        return new long[] {seen.size(), parts};
+    }
+
+    private static void see(Object x, Set<Object> seen, Deque<Object> open) {
+        if (x != null && seen.add(x)) {
+            open.add(x);
         }
     }
 
